@@ -196,9 +196,9 @@ public final class ModelTest {
             case 6 -> is("read(" + side + ")", x.read(side), m.read(side));
             case 7 -> is("image(" + k + ")", x.image(k), m.image(k));
             default -> {
-                if (random.nextInt(3) == 0) {
-                    is("restore(" + k + ")", x.restore(k), m.restore(k));
-                }
+                is("restore(" + k + ")", x.restore(k), m.restore(k));
+                int n = of(1, 5);
+                is("go(" + n + ")", x.go(n), m.go(n));
             }
         }
     }

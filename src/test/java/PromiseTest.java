@@ -20,6 +20,7 @@ public final class PromiseTest {
         faultPlaces();
         faultNumbers();
         faultRoom();
+        faultBesideOlderBytes();
         faultStays();
         puller();
         begin();
@@ -206,6 +207,8 @@ public final class PromiseTest {
 
     private static void match() {
         is("7 two", Due.match(new HeelsIn(), TWO), 2);
+        String one = "puller 80 50 90 5 0;";
+        is("7 five", Due.match(new HeelsIn(), "side;" + one.repeat(2) + "side;" + one.repeat(3)), 5);
         is("7 close", Due.match(new HeelsIn(), "side;puller80 50 90 5 0;puller 40-0;"), -1000133);
         is("7 close", Due.match(new HeelsIn(), "side;puller80 050\n90 5 000;side;puller150 1 1 1 5;ground1 0 1;"), 2);
         is("7 far", Due.match(new HeelsIn(), "  side \n;\n\npuller 40 200 400 60 5 ; side ; puller 40 1 1 1 0 ;\n "), 2);
@@ -249,6 +252,12 @@ public final class PromiseTest {
         faulted(" side \n", 7, 1);
         faulted("sides;", 0, 1);
         faulted("sid;", 0, 1);
+        faulted("sidea;", 0, 1);
+        faulted("sidez;", 0, 1);
+        faulted("side`;", 4, 1);
+        faulted("side{;", 4, 1);
+        faulted("side;puller 80/", 14, 1);
+        faulted("side;puller 80:", 14, 1);
         faulted("Side;", 0, 1);
         faulted("ground 1 0 1;", 0, 1);
         faulted("side puller", 5, 1);
@@ -330,6 +339,26 @@ public final class PromiseTest {
         String first = "side;" + puller.repeat(8) + rule.repeat(6);
         faulted(first + "side;" + puller.repeat(9), first.length() + 5 + 8 * puller.length(), 3);
         faulted(first + first + rule, 2 * first.length(), 3);
+    }
+
+    /** What an older text left behind the end of the tape is not read. */
+    private static void faultBesideOlderBytes() {
+        String[] older = {"z", "9", " ", ";", "-"};
+        for (String sign : older) {
+            HeelsIn x = new HeelsIn();
+            Due.match(x, sign.repeat(700));
+            is("7 side, then older '" + sign + "'", Due.match(x, "side"), -1000104);
+            is("7 80, then older '" + sign + "'", Due.match(x, "side;puller 80"), -1000114);
+            is("7 -, then older '" + sign + "'", Due.match(x, "side;puller -"), -1000112);
+            is("7 blank, then older '" + sign + "'", Due.match(x, "side; "), -1000106);
+        }
+        faulted("z".repeat(700), 0, 1);
+        faulted("9".repeat(700), 0, 1);
+        faulted(" ".repeat(700), 700, 1);
+        faulted("side;" + " ".repeat(695), 700, 1);
+        faulted("side;puller " + "9".repeat(688), 12, 1);
+        faulted("side;puller" + " ".repeat(687) + "80", 700, 1);
+        faulted("side;puller 80" + " ".repeat(685) + "-", 699, 1);
     }
 
     private static void faultStays() {
@@ -927,6 +956,44 @@ public final class PromiseTest {
         Due.feed(x, "side");
         x.restore(0);
         is("24 the tape stays", x.count(5), 4);
+        imageOfChangedEnds();
+        imageOfOneThatHasWon();
+    }
+
+    private static void imageOfChangedEnds() {
+        HeelsIn x = Due.of("side;puller 80 100 200 60 0;side;puller 80 100 200 60 0;ground 90 20 50;");
+        Due.lay(x, 0, 0, 1, 0, 1, 0, 1, 0);
+        x.begin(1);
+        x.told(0, 0, 2);
+        x.image(1);
+        x.begin(0);
+        x.told(0, 0, 3);
+        is("24 GRIP of END 0 ahead", x.pull(3), 30);
+        x.restore(1);
+        is("24 GRIP of END 0", x.pull(3), 90);
+        is("24 GRIP of END 1", x.pull(4), 50);
+        x.told(0, 0, 1);
+        is("24 ENDS are changed", x.pull(4), 30);
+        is("24 FORCE by END 1", x.later(0, 2), 100);
+        is("24 FORCE by END 0", x.later(0, 3), 90);
+    }
+
+    private static void imageOfOneThatHasWon() {
+        HeelsIn x = Due.of("side;puller 80 200 300 60 0;side;puller 80 40 80 9 1;ground 100 0 3;");
+        x.begin(0);
+        x.go(2);
+        x.image(0);
+        x.go(9);
+        x.image(1);
+        is("23 won", x.pull(2), 0);
+        x.restore(0);
+        is("24 not won", x.pull(2), NONE);
+        is("24 goes on", x.go(9), 1);
+        x.begin(0);
+        x.restore(1);
+        is("24 won", x.pull(2), 0);
+        is("24 nothing goes on", x.go(9), 0);
+        is("24 kept", x.later(2, 4), 1);
     }
 
     private static int[] all(HeelsIn x) {
