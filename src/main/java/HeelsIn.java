@@ -1101,13 +1101,18 @@ public final class HeelsIn {
 
         private int worstOf(int move, int a, int b, int t) {
             int row = breathAfter(move, a) * BREATHS;
-            int worst = Integer.MAX_VALUE;
-            for (int reply = 0; reply < MOVES; reply++) {
+            // One can always hold.
+            int worst = gainBy(move, 0, row, b, t);
+            for (int reply = 1; reply < MOVES; reply++) {
                 if (can(reply, b)) {
-                    worst = Math.min(worst, GAINS[move * MOVES + reply] + values[t - 1][row + breathAfter(reply, b)]);
+                    worst = Math.min(worst, gainBy(move, reply, row, b, t));
                 }
             }
             return worst;
+        }
+
+        private int gainBy(int move, int reply, int row, int b, int t) {
+            return GAINS[move * MOVES + reply] + values[t - 1][row + breathAfter(reply, b)];
         }
     }
 

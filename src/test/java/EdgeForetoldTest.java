@@ -43,6 +43,7 @@ public final class EdgeForetoldTest {
         readAsFarAsKept();
         readOfEachSide();
         imagesOfEachKind();
+        imagesOfSixteen();
         imagesAreCopies();
         imagesAreTwo();
         Due.end("EdgeForetoldTest");
@@ -799,7 +800,7 @@ public final class EdgeForetoldTest {
 
     /** "of MATCH, GRIPS, the PULL": one of each state is as it was; the tape, SHEETS, TRACE, FAULT stay as they are. */
     private static void imagesOfEachKind() {
-        Twins.Calls[] states = {States::matched, States::begun, States::full, States::won};
+        Twins.Calls[] states = {States::matched, States::begun, States::full, States::won, States::sixteen};
         for (Twins.Calls state : states) {
             for (int image = 0; image < 2; image++) {
                 int k = image;
@@ -832,6 +833,45 @@ public final class EdgeForetoldTest {
                 });
             }
         }
+    }
+
+    /** All of the fullest PULL, asked one by one ahead of image() and behind restore(). */
+    private static void imagesOfSixteen() {
+        HeelsIn x = new HeelsIn();
+        States.sixteen(x);
+        int[] kept = answers(x);
+        is("13 somebody GAVE", x.pull(5) == NONE ? 0 : 1, 1);
+        is("13 GAVE is not the TENTH of it", x.pull(5) == x.pull(6) ? 1 : 0, 0);
+        is("29 sixty are kept", x.count(7), 60);
+        x.image(1);
+        Due.match(x, "side;puller 150 1 1 1 5;side;puller 40 2 2 2 1;");
+        x.begin(0);
+        x.go(70);
+        x.restore(1);
+        int[] restored = answers(x);
+        for (int k = 0; k < kept.length; k++) {
+            is("24 answer " + k + " of sixteen", restored[k], kept[k]);
+        }
+    }
+
+    private static int[] answers(HeelsIn x) {
+        int[] answers = new int[200];
+        int at = 0;
+        for (int side = 0; side < 2; side++) {
+            for (int p = 0; p < 8; p++) {
+                answers[at++] = x.doing(side, p, 0);
+                answers[at++] = x.doing(side, p, 1);
+                answers[at++] = x.doing(side, p, 2);
+                answers[at++] = x.puller(side, p, p % 5);
+            }
+            for (int ago = 0; ago < 60; ago++) {
+                answers[at++] = x.later(ago, side == 0 ? ago % 5 : (ago + 2) % 5);
+            }
+        }
+        for (int what = 0; what < 7; what++) {
+            answers[at++] = x.pull(what);
+        }
+        return answers;
     }
 
     /** What goes on behind image() and restore() changes no IMAGE. */

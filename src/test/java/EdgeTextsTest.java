@@ -25,6 +25,7 @@ public final class EdgeTextsTest {
         everyByteBetween();
         lettersOfNames();
         figuresOfNumbers();
+        everyLetterOfNames();
         threeFiguresAtMost();
         minusAtOnce();
         blanks();
@@ -172,6 +173,18 @@ public final class EdgeTextsTest {
         faulty("SIDE;", 0, 1);
         faulty("side;pullers 80", 5, 1);
         faulty("side;pulle 80", 5, 1);
+    }
+
+    /** A NAME with one letter that is another one, with one less, with one more is none of these: at its first byte. */
+    private static void everyLetterOfNames() {
+        for (int k = 0; k < TOKENS.length; k++) {
+            String name = TOKENS[k];
+            for (int at = 0; at < name.length() && Character.isLetter(name.charAt(0)); at++) {
+                faulty(with(k, name.substring(0, at) + "q" + name.substring(at + 1)), placeOf(k), 1);
+                faulty(with(k, name.substring(0, at) + "q" + name.substring(at)), placeOf(k), 1);
+                faulty(with(k, name.substring(0, at) + name.substring(at + 1)), placeOf(k), 1);
+            }
+        }
     }
 
     /** "NUMBERS (.. figures ..)": byte by byte behind one. */
@@ -573,25 +586,21 @@ public final class EdgeTextsTest {
 
     /** "-1000100 less the place of a FAULT: all but the tape, and what fault() tells, stays." */
     private static void allThatStays() {
-        HeelsIn x = Due.of(States.FIRST);
-        x.begin(1);
-        x.go(3);
-        String other = "side;puller 99 1 1 1 1;when tenth above -1 rest;side;puller 99 1 1 1 1;ground 1 20 99;";
-        for (int end = 1; end < other.length(); end++) {
-            Due.match(x, other.substring(0, end));
-            if (end == 71) {
-                // The ground is not begun yet: this is a good text.
-                is("7 good at " + end, x.count(6), 20);
-                x = Due.of(States.FIRST);
-                x.begin(1);
-                x.go(3);
-            }
-            is("13 TENTHS stay at " + end, x.pull(1), 3);
-            is("9 the MATCH stays at " + end, x.puller(0, 1, 1), 60);
-            is("29 FAR stays at " + end, x.count(6), 25);
+        String other = "side;puller 99 1 1 1 1;when tenth above -1 rest;side;puller 99 1 1 1 1;";
+        String ground = "ground 1 20 99;";
+        for (int end = 1; end < other.length() + ground.length(); end++) {
+            HeelsIn x = Due.of(States.FIRST);
+            x.begin(1);
+            x.go(3);
+            boolean whole = end == other.length();
+            is("7 up to " + end, Due.match(x, (other + ground).substring(0, end)) > 0 ? 1 : 0, whole ? 1 : 0);
+            is("13 TENTHS at " + end, x.pull(1), whole ? STATE : 3);
+            is("9 the MATCH at " + end, x.puller(0, 1, 1), whole ? BAD : 60);
+            is("9 the last of SIDE 1 at " + end, x.puller(1, 2, 4), whole ? BAD : 5);
+            is("29 FAR at " + end, x.count(6), whole ? 20 : 25);
+            is("29 rules at " + end, x.count(3), whole ? 1 : 2);
+            is("11 it goes on at " + end, x.go(1), whole ? STATE : 1);
         }
-        is("11 its rules", x.go(1), 1);
-        is("9 the last of SIDE 1", x.puller(1, 2, 4), 5);
     }
 
     /** "The number of the latest FAULT; 0 before one." */

@@ -215,9 +215,11 @@ public final class RefusalsTest {
     /** "all but the tape, and what fault() tells, stays": the tape is empty, and the FAULT the same, in both. */
     private static void match() {
         String[] faulty = {"side;puller 99 1 2 3 4;when tenth above 1 rest;side;puller 98 1 2 3 4;ground 7 7 7;;", "side",
-            States.SECOND + "puller", "side;puller 99 1 2 3 4;side;puller 98 1 2 3 6;"};
+            States.SECOND + "puller", "side;puller 99 1 2 3 4;side;puller 98 1 2 3 6;",
+            "side;" + "puller 99 1 2 3 4;".repeat(8) + "side;" + "puller 98 2 3 4 5;".repeat(8) + "ground 7 7 7"};
         for (String text : faulty) {
-            for (Twins.Calls ahead : new Twins.Calls[] {x -> { }, States::matched, States::begun, States::full, States::won}) {
+            for (Twins.Calls ahead : new Twins.Calls[] {x -> { }, States::matched, States::begun, States::full, States::won,
+                States::sixteen}) {
                 Twins.same("7 a FAULT in '" + text + "'", x -> {
                     fault1(x);
                     ahead.of(x);
@@ -567,7 +569,8 @@ public final class RefusalsTest {
 
     /** What asks alone changes nothing: the PULL at hand, GRIPS stay behind what is foretold, too. */
     private static void questions() {
-        for (Twins.Calls ahead : new Twins.Calls[] {x -> { }, States::matched, States::begun, States::full, States::won}) {
+        for (Twins.Calls ahead : new Twins.Calls[] {x -> { }, States::matched, States::begun, States::full, States::won,
+            States::sixteen}) {
             Twins.asked("8", ahead, HeelsIn::fault);
             Twins.asked("9", ahead, x -> x.puller(1, 0, 3));
             Twins.asked("13", ahead, x -> x.pull(5));

@@ -55,4 +55,21 @@ final class States {
         x.image(0);
         sheets(x);
     }
+
+    /** Eight on each SIDE, no two alike, all six rules; 65 TENTHS, some SPENT: the fullest that a PULL can be. */
+    static void sixteen(HeelsIn x) {
+        StringBuilder text = new StringBuilder();
+        for (int k = 0; k < 16; k++) {
+            text.append(k % 8 == 0 ? "side;" : "").append("puller").append(45 + 5 * k).append(' ').append(20 + 3 * k % 7).append(' ')
+                .append(60 + 5 * k % 11).append(' ').append(20 - k).append(' ').append(k % 6).append(';');
+            if (k % 8 == 7) {
+                text.append("when breath below ").append(3 + k / 8).append(" rest;when tenth above 62 rest;when theirs below 2 heave;")
+                    .append("when thread above 9 counter;when thread below -9 heave;when tenth below ").append(4 + k).append(" heave;");
+            }
+        }
+        Due.match(x, text + "ground 99 1 90;");
+        x.begin(1);
+        x.go(65);
+        sheets(x);
+    }
 }

@@ -11,7 +11,7 @@ final class Twins {
         int of(HeelsIn x);
     }
 
-    private static final int PARTS = 12;
+    private static final int PARTS = 14;
     private static final int FOUND = -1000010;
 
     private Twins() {
@@ -94,6 +94,19 @@ final class Twins {
                 answers.add(x.match());
                 state(x, answers);
             }
+            case 11 -> asks(x, answers);
+            case 12 -> {
+                answers.add(x.sheet(0, 0, 4));
+                answers.add(x.set(0, 0, 2));
+                answers.add(x.set(0, 3, 1));
+                answers.add(x.told(0, 0, 2));
+                answers.add(x.image(1));
+                answers.add(x.go(1));
+                answers.add(x.restore(1));
+                state(x, answers);
+                answers.add(x.go(3));
+                answers.add(x.pull(0));
+            }
             default -> foretold(x, answers);
         }
         return answers;
@@ -145,6 +158,18 @@ final class Twins {
         for (int sheet = 0; sheet < 8; sheet++) {
             answers.add(x.set(sheet, 0, 0x12345678));
             answers.add(x.drop(sheet));
+        }
+    }
+
+    private static void asks(HeelsIn x, List<Integer> answers) {
+        for (int k = 0; k < 32; k++) {
+            answers.add(x.ask(k / 16, k / 2 % 8, k % 2));
+            for (int i = 0; i < 5; i++) {
+                answers.add(x.trace(i));
+            }
+            for (int kind = 0; kind < 6 && k % 2 == 0; kind++) {
+                answers.add(x.as(k / 16, k / 2 % 8, kind));
+            }
         }
     }
 
