@@ -596,9 +596,20 @@ public final class EdgeForetoldTest {
         String[] bests3 = {"0 0 0 0 0 0 0 0 0 0", "0 0 0 0 0 0 0 0 0 0", "1 0 0 0 0 0 0 0 0 0", "1 0 0 0 0 2 2 2 2 2"};
         table(x, 3, values3, bests3);
         table(new HeelsIn(), 3, values3, bests3);
-        HeelsIn y = new HeelsIn();
-        is("20 BEST asked first", y.game(9, 0, 20, 1), 1);
-        is("20 BEST of 1 then", y.game(2, 0, 1, 1), 1);
+        for (int k = 0; k < 100; k++) {
+            int a = k / 10;
+            int b = k % 10;
+            int row = Math.min(a, 4);
+            int value = Integer.parseInt(values20[row].split(" ")[b]);
+            int best = Integer.parseInt(bests20[row].split(" ")[b]);
+            is("20 VALUE, the first that is asked " + k, new HeelsIn().game(a, b, 20, 0), value);
+            HeelsIn y = new HeelsIn();
+            is("20 BEST, the first that is asked " + k, y.game(a, b, 20, 1), best);
+            is("20 BEST of 3 then " + k, y.game(a, b, 3, 1), Integer.parseInt(bests3[Math.min(a, 3)].split(" ")[b]));
+            HeelsIn z = new HeelsIn();
+            is("20 BEST of 3, the first that is asked " + k, z.game(a, b, 3, 1), Integer.parseInt(bests3[Math.min(a, 3)].split(" ")[b]));
+            is("20 BEST of 20 then " + k, z.game(a, b, 20, 1), best);
+        }
     }
 
     /** "each FORCE of h and b together, by 2 (cut), or more was a burst, else a hold". */
