@@ -247,6 +247,7 @@ public final class HeelsIn {
         if (!within(a, 10) || !within(b, 10) || !within(t, 21) || !within(what, 2)) {
             return BAD;
         }
+        game.fillTo(t);
         return what == 0 ? game.valueOf(a, b, t) : game.bestOf(a, b, t);
     }
 
@@ -1057,28 +1058,23 @@ public final class HeelsIn {
         private final int[][] values = new int[MOST_TENTHS + 1][BREATHS * BREATHS];
         private int filled;
 
-        private int valueOf(int a, int b, int t) {
-            while (filled < t && filled < MOST_TENTHS) {
-                filled++;
-                fill(filled);
-            }
-            return values[t][a * BREATHS + b];
-        }
-
-        private void fill(int t) {
-            for (int a = 0; a < BREATHS; a++) {
-                for (int b = 0; b < BREATHS; b++) {
-                    values[t][a * BREATHS + b] = worstOf(bestMove(a, b, t), a, b, t);
+        /** The values of t tenths stand on those of one fewer; those of none are 0. */
+        private void fillTo(int t) {
+            for (; filled < t && filled < MOST_TENTHS; filled++) {
+                for (int state = 0; state < BREATHS * BREATHS; state++) {
+                    int a = state / BREATHS;
+                    int b = state % BREATHS;
+                    values[filled + 1][state] = worstOf(bestMove(a, b, filled + 1), a, b, filled + 1);
                 }
             }
         }
 
+        private int valueOf(int a, int b, int t) {
+            return values[t][a * BREATHS + b];
+        }
+
         private int bestOf(int a, int b, int t) {
-            if (t < 1) {
-                return NONE;
-            }
-            valueOf(a, b, t);
-            return bestMove(a, b, t);
+            return t < 1 ? NONE : bestMove(a, b, t);
         }
 
         private static boolean can(int move, int breath) {
